@@ -140,6 +140,7 @@ public final class AskTest {
         Check.due("the first one alone gains", 0, Check.told(one + "tenant t hours 2 in p;tenant u hours 2 in q;likes hours = wants;").swaps(0));
         Check.due("the other one alone gains", 0, Check.told(one + "tenant t hours 1 in p;tenant u hours 1 in q;likes hours = wants;").swaps(0));
         Check.due("the first one is liked alike", 0, Check.told(one + "tenant t hours 3 in p;tenant u hours 1 in q;likes hours = wants;").swaps(0));
+        Check.due("the other one is liked alike", 0, Check.told(one + "tenant t hours 2 in p;tenant u hours 3 in q;likes hours = wants;").swaps(0));
         Check.due("one is in probate", 0, Check.told(one + "tenant t hours 2 in p;tenant u hours 1 in z;likes hours = wants;").swaps(0));
         CatLeases big = Check.told("cat a wants 1;cat b wants 2;room p of a;room q of b;tenant t hours 1 in p;tenant u hours 2 in q;"
             + "likes 9999 * 9999 - 9 * (hours = wants);");
@@ -303,6 +304,10 @@ public final class AskTest {
         CatLeases x = Check.told(told + "likes hours - wants - rooms;dies 100;");
         Check.due("crowd(0)", 1, x.crowd(0));
         Check.due("without tenants", 8, x.crowd(1));
+        x.exchange(0, 1);
+        x.spend(0, 6);
+        x.spend(1, 9);
+        Check.due("the first one alone tells", 0, x.crowd(0));
         Check.due("crowd(2)", -1, x.crowd(2));
         Check.due("crowd(-1)", -1, x.crowd(-1));
         x.quarter();
