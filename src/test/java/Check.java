@@ -1,4 +1,5 @@
 import java.nio.charset.StandardCharsets;
+import java.util.function.IntSupplier;
 
 /** Counts what is not as due, and tells texts to an object. */
 final class Check {
@@ -13,6 +14,10 @@ final class Check {
             wrong++;
             System.out.println(what + " answered " + got + ", due is " + want);
         }
+    }
+
+    static void due(String what, String want, String got) {
+        due(what + ": " + got + ", due is " + want, true, want.equals(got));
     }
 
     static void due(String what, boolean want, boolean got) {
@@ -63,6 +68,37 @@ final class Check {
     static void formula(String formula, int want) {
         CatLeases x = told("cat a wants 5;room r of a;tenant t hours 20 warm 2 fidgets 3;likes " + formula + ";");
         due("likes " + formula, want, x.liking(0, 0));
+    }
+
+    /** What acts change, and what was told. */
+    static String world(CatLeases x) {
+        StringBuilder s = new StringBuilder();
+        for (int what = 0; what <= 6; what++) s.append(x.about(what)).append(' ');
+        for (int c = 0; c < x.about(1); c++) for (int what = 0; what <= 4; what++) s.append(x.cat(c, what)).append(' ');
+        for (int r = 0; r < x.about(2); r++) for (int what = 0; what <= 1; what++) s.append(x.room(r, what)).append(' ');
+        for (int t = 0; t < x.about(0); t++) for (int what = 0; what <= 4; what++) s.append(x.tenant(t, what)).append(' ');
+        return s.append("units ").append(x.about(12)).toString();
+    }
+
+    /** The acts that are kept, what is seen and known, and what lies there. */
+    static String kept(CatLeases x) {
+        StringBuilder s = new StringBuilder();
+        for (int what : new int[] {7, 8, 9, 10, 13}) s.append(x.about(what)).append(' ');
+        for (int i = 0; i <= 7; i++) s.append(x.lies(i)).append(' ');
+        int now = x.about(10);
+        return s.append("fits ").append(x.fits(now)).append(' ').append(x.sure(0, now)).append(' ').append(x.sure(1, now)).toString();
+    }
+
+    /** All that can be seen of an object without a change. */
+    static String all(CatLeases x) {
+        return world(x) + " kept " + kept(x) + " tape " + x.about(11) + " fault " + x.fault(0) + ' ' + x.fault(1);
+    }
+
+    /** A call that answers so, and does nothing. */
+    static void idle(CatLeases x, String what, int want, IntSupplier call) {
+        String before = all(x);
+        due(what, want, call.getAsInt());
+        due(what + " does nothing", before, all(x));
     }
 
     static void end(String name) {

@@ -11,6 +11,8 @@ import java.util.Random;
 public final class ModelTest {
     private static final int RUNS = 700;
     private static final int CALLS = 512;
+    private static final int[] EDGES = {Integer.MIN_VALUE, Integer.MAX_VALUE, -1, -2, 0, 4, 5, 6, 7, 8, 9, 10, 13, 14, 20, 21, 30, 31, 32, 60, 61,
+        63, 64, 99, 100, 999, 1000, 1001, 1600};
 
     private final Random random;
     private final CatLeases real = new CatLeases();
@@ -112,7 +114,7 @@ public final class ModelTest {
     private int number(String name, int index) {
         int chance = random.nextInt(60);
         if (chance == 0) return random.nextInt();
-        if (chance == 1) return new int[] {Integer.MIN_VALUE, Integer.MAX_VALUE, -1, -2, 64, 1000}[random.nextInt(6)];
+        if (chance <= 2) return EDGES[random.nextInt(EDGES.length)];
         switch (name) {
             case "will": return index == 1 ? random.nextInt(64) - 1 : index == 2 ? random.nextInt(2) : random.nextInt(7);
             case "housed": return random.nextInt(64) - 1;
@@ -167,7 +169,7 @@ public final class ModelTest {
             }
             s.append(";");
         }
-        if (random.nextInt(4) != 0) s.append("likes ").append(either(random.nextInt(4))).append(";");
+        if (random.nextInt(4) != 0) s.append("likes ").append(random.nextInt(8) == 0 ? deep() : either(random.nextInt(4))).append(";");
         if (random.nextInt(3) != 0) s.append("dies ").append(random.nextInt(random.nextBoolean() ? 30 : 101)).append(";");
         if (random.nextInt(3) != 0) s.append("draw ").append(random.nextInt(1000)).append(";");
         if (random.nextInt(4) == 0) spoil(s);
@@ -185,6 +187,18 @@ public final class ModelTest {
             else if (kind == 1 && at < s.length()) s.setLength(at);
             else s.insert(at, bits[random.nextInt(bits.length)]);
         }
+    }
+
+    /** About as far within others as can be. */
+    private String deep() {
+        StringBuilder s = new StringBuilder();
+        int opened = 0;
+        for (int i = 4 + random.nextInt(5); i > 0; i--) {
+            boolean not = random.nextBoolean();
+            s.append(not ? "not " : random.nextInt(4) == 0 ? "hours - (" : "(");
+            opened += not ? 0 : 1;
+        }
+        return s.append(sum(0)).append(")".repeat(opened)).toString();
     }
 
     private String either(int depth) {
